@@ -11,6 +11,7 @@ public final class BallPiecesTest {
         ofFelt();
         change();
         lend();
+        goneLeavesNothing();
         felt();
         due.end();
     }
@@ -174,6 +175,32 @@ public final class BallPiecesTest {
         due.is("wind anew", x.wind(Due.ROW, 2), 0);
         due.is("as new", x.of(0, 2), 10);
         due.is("no spot holds it", x.count(7), 0);
+    }
+
+    /** What a gone piece was counts no more, nor is it found in one wound anew. */
+    private static void goneLeavesNothing() {
+        ParcelBall x = Due.wound(5, Due.PIECE);
+        x.wind(Due.FUSE, 9);
+        x.change(1, 2, 50);
+        x.change(1, 3, 4);
+        x.change(1, 4, 50);
+        x.change(1, 5, 7);
+        x.lend(50);
+        due.is("DEEP without it", x.of(0, 8), 0);
+        due.is("FELT without it", x.of(0, 9), 10);
+        due.is("LONG of all without it", x.now(4), 10);
+        due.is("UP without it", x.now(2), 0);
+        due.is("its place is not drawn to", x.now(6), 1 << 5);
+        due.is("felt(9) without it", x.felt(9), 0);
+        due.is("most felt without it", x.now(7), 0);
+        due.is("it goes off no more", x.off(), Due.NONE);
+        due.is("it draws no more", x.go(9), 5);
+        due.is("it went off no more", x.now(5), 0);
+        x.wind(Due.PIECE, 2);
+        int[] first = {0, 2, 10, 0, 0, 0};
+        for (int what = 0; what < 6; what++) {
+            due.is("wound anew: of(1, " + what + ")", x.of(1, what), first[what]);
+        }
     }
 
     private static void felt() {

@@ -11,8 +11,10 @@ public final class DaysTest {
         agesHaveMost();
         goesOff();
         oneGoesOffADay();
+        tenthOfDeep();
         now();
         weighsOnTheDayItself();
+        lastDay();
         due.end();
     }
 
@@ -150,6 +152,23 @@ public final class DaysTest {
         due.is("halved by the first alone", x.of(1, 2), 5);
     }
 
+    private static void tenthOfDeep() {
+        int[] about = {9, 10, 19, 20, 99};
+        int[] up = {50, 49, 49, 48, 41};
+        for (int i = 0; i < about.length; i++) {
+            ParcelBall x = Due.wound(9, Due.PIECE);
+            x.wind(Due.PIECE, 5);
+            x.change(0, 2, 50);
+            x.change(1, 2, about[i]);
+            due.is("UP below " + about[i], x.now(2), up[i]);
+            due.is("FELT below " + about[i], x.of(0, 9), up[i]);
+            x.drag(up[i]);
+            due.is("a day against it", x.where(1), 5);
+            x.drag(up[i] - 1);
+            due.is("a day against one less", x.where(1), 6);
+        }
+    }
+
     private static void now() {
         ParcelBall x = new ParcelBall();
         due.is("most felt of none", x.now(7), -1);
@@ -163,6 +182,9 @@ public final class DaysTest {
             due.is("now(" + what + ")", x.now(what), want[what]);
         }
         x.change(1, 2, 12);
+        due.is("DOWN anew", x.now(3), (12 - 2) + 10);
+        x.change(0, 2, 11);
+        due.is("UP anew", x.now(2), 11 - 3);
         due.is("of two alike the least", x.now(7), 1);
         x.go(4);
         due.is("DAY", x.now(0), 4);
@@ -170,6 +192,33 @@ public final class DaysTest {
         y.change(0, 2, 1);
         y.change(1, 2, 1);
         due.is("of none felt the least", y.now(7), 0);
+    }
+
+    /** More calls than an object is used for; STATE can't be seen with fewer. */
+    private static void lastDay() {
+        ParcelBall x = Due.wound(5, Due.PIECE);
+        for (int i = 0; i < 1666; i++) {
+            x.go(60);
+        }
+        due.is("DAY 99960", x.now(0), 99960);
+        due.is("go(40) to 100000", x.go(40), Due.STATE);
+        due.is("go(61)", x.go(61), Due.BEYOND);
+        due.is("DAY stays", x.now(0), 99960);
+        due.is("go(20)", x.go(20), 5);
+        due.is("parcels(20) to 100000", x.parcels(20), Due.STATE);
+        due.is("no draw", x.count(6), 1);
+        x.seed(0);
+        due.holds("parcels(18)", x.parcels(18) >= 0);
+        due.is("DAY 99998", x.count(0), 99998);
+        x.image();
+        due.holds("go(1) to 99999", x.go(1) >= 0);
+        x.undo();
+        due.holds("parcels(1) to 99999", x.parcels(1) >= 0);
+        due.is("go(1) to 100000", x.go(1), Due.STATE);
+        due.is("parcels(1) to 100000", x.parcels(1), Due.STATE);
+        due.is("parcels(0)", x.parcels(0), Due.BEYOND);
+        due.is("DAY 99999", x.now(0), 99999);
+        due.is("what would be behind it is told", x.ahead(0, 4, 1), 9999);
     }
 
     /** A birthday pulls thrice on days 0, 7, ..: then alone it moves the ball here. */

@@ -124,6 +124,8 @@ public final class SoughtTest {
         due.is("dragFor(5, 2)", x.dragFor(5, 2), 99);
         due.is("dragFor(7, 3)", x.dragFor(7, 3), Due.NONE);
         due.is("dragFor(9, 40)", x.dragFor(9, 40), 29);
+        due.is("dragFor(5, 0)", x.dragFor(5, 0), 99);
+        due.is("dragFor(6, 0)", x.dragFor(6, 0), Due.NONE);
         x.change(0, 2, 1);
         due.is("dragFor(6, 1)", x.dragFor(6, 1), 0);
         due.is("DRAG stays", x.drag(10), 10);
@@ -143,6 +145,11 @@ public final class SoughtTest {
         due.is("loosen(2, 3): the one that draws up", x.loosen(2, 3), 1);
         due.is("loosen(2, 2): too few days", x.loosen(2, 2), Due.NONE);
         due.is("loosen(8, 20)", x.loosen(8, 20), 2);
+        due.is("loosen(5, 0)", x.loosen(5, 0), 0);
+        due.is("loosen(6, 0)", x.loosen(6, 0), Due.NONE);
+        ParcelBall up = Due.wound(8, Due.BIRTHDAY, Due.BIRTHDAY);
+        due.is("loosen(5, 1): all there are", up.loosen(5, 1), 3);
+        due.is("they are loosened for that alone", up.where(1), 6);
         due.is("felt as before", x.felt(2), 50);
         due.is("the ball stays", x.where(3), 5);
         due.is("loosen(12, 0)", x.loosen(12, 0), Due.BEYOND);

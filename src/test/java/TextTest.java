@@ -89,6 +89,15 @@ public final class TextTest {
         reads("   ", -4);
         reads("twine", -1);
         reads("pieces", -1);
+        reads("niece", -1);
+        reads("piecf", -1);
+        reads("rowz", -1);
+        reads("rowa", -1);
+        reads("rowto 3", -1);
+        reads("row`", -4);
+        reads("row{", -4);
+        reads("row/", -4);
+        reads("row:", -4);
         reads("Piece", -1);
         reads("piece to", -9);
         reads("piece to  ", -11);
