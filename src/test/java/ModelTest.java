@@ -7,7 +7,8 @@ import java.util.Random;
 /** Runs of calls by seeds, each answered by the class and by the plain model alike. */
 public final class ModelTest {
     private static final int RUNS = 400;
-    private static final int CALLS = 512;
+    /** A text may take some more, up to 512. */
+    private static final int CALLS = 470;
     private static final Due due = new Due("ModelTest");
     private static final String[] WORDS = {"piece", "ticking", "birthday", "row", "letter", "hers", "fuse",
         "ball", "drag", "to", "long", "knots"};
