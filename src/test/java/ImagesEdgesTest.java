@@ -18,6 +18,7 @@ public final class ImagesEdgesTest {
         statusIsTakenBackByNone();
         zIsNoFinding();
         faultIsNoFinding();
+        lastCallThatIsPromised();
         due.end();
     }
 
@@ -272,5 +273,22 @@ public final class ImagesEdgesTest {
             due.is("FAULT at " + n, x.text(), -1 - n);
             due.is("no finding by it", x.status(-1), 0);
         }
+    }
+
+    // ---- what it is
+
+    /** The 512th call of an object is answered as the first was. */
+    private static void lastCallThatIsPromised() {
+        ParcelBall refused = new ParcelBall();
+        ParcelBall kept = new ParcelBall();
+        ParcelBall gone = new ParcelBall();
+        for (int call = 1; call <= 511; call++) {
+            due.is("refused call " + call, refused.ball(12), Due.BEYOND);
+            due.is("image() as call " + call, kept.image(), 1);
+            due.is("go(60) as call " + call, gone.go(60), 5);
+        }
+        due.is("the 512th call: status(-1)", refused.status(-1), 511);
+        due.is("the 512th call: undo()", kept.undo(), 0);
+        due.is("the 512th call: DAY", gone.count(0), 511 * 60);
     }
 }
